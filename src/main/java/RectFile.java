@@ -769,11 +769,10 @@ public final class RectFile {
             home[thing] = NONE;
         }
 
-        /** Fits the box of a page round its entries. */
-        void fit(int page) {
+        /** Fits the box of a page round its entries: whether it was another one. */
+        boolean fit(int page) {
             if (size[page] == 0) {
-                setSides(IDS + page, 0, 0, 0, 0);
-                return;
+                return changeSides(IDS + page, 0, 0, 0, 0);
             }
             int first = 4 * thingAt(page, 0);
             int x1 = side[first];
@@ -787,13 +786,20 @@ public final class RectFile {
                 x2 = Math.max(x2, side[at + 2]);
                 y2 = Math.max(y2, side[at + 3]);
             }
-            setSides(IDS + page, x1, y1, x2, y2);
+            return changeSides(IDS + page, x1, y1, x2, y2);
         }
 
+        private boolean changeSides(int thing, int x1, int y1, int x2, int y2) {
+            int at = 4 * thing;
+            boolean alike = side[at] == x1 && side[at + 1] == y1 && side[at + 2] == x2 && side[at + 3] == y2;
+            setSides(thing, x1, y1, x2, y2);
+            return !alike;
+        }
+
+        /** Up to a page whose box stays: those above it stay, too. */
         void fitUp(int from) {
             int page = from;
-            for (int steps = 0; page != NONE && steps < pages; steps++) {
-                fit(page);
+            for (int steps = 0; page != NONE && fit(page) && steps < pages; steps++) {
                 page = home[IDS + page];
             }
         }
@@ -1386,23 +1392,27 @@ public final class RectFile {
 
     /** Looks through windows and for what is near. */
     private static final class Seeker {
+        // Above every number of pages that came to wait: rectangles as far go behind all of these.
+        private static final int BEHIND_PAGES = 1 << 30;
+
         int foundId;
         int foundFar;
         int opened;
         private final Box pane;
         private final Box box;
         private boolean[] looked;
-        // What waits, in the order in which it came, and how far it is.
+        // A heap of what waits, with keys that tell which goes first, the least at its top.
         private int[] waiting;
-        private int[] far;
+        private long[] keys;
         private int waits;
+        private int pagesCome;
 
         Seeker() {
             pane = new Box();
             box = new Box();
             looked = new boolean[Tree.FIRST_ROOM];
             waiting = new int[IDS + Tree.FIRST_ROOM];
-            far = new int[IDS + Tree.FIRST_ROOM];
+            keys = new long[IDS + Tree.FIRST_ROOM];
         }
 
         void openWindow(int x1, int y1, int x2, int y2) {
@@ -1450,15 +1460,14 @@ public final class RectFile {
             }
             makeRoom(tree.pages);
             opened = 0;
-            waits = 1;
-            waiting[0] = IDS + tree.root;
-            far[0] = 0;
+            pagesCome = 0;
+            waits = 0;
+            await(IDS + tree.root, 0);
             int found = 0;
             for (int turns = 0; waits > 0 && turns < IDS + tree.pages; turns++) {
-                int next = nextToGo();
-                int thing = waiting[next];
-                foundFar = far[next];
-                letGo(next);
+                int thing = waiting[0];
+                foundFar = (int) (keys[0] >> 32);
+                dropFirst();
                 if (thing >= IDS) {
                     opened++;
                     awaitEntries(tree, thing - IDS, x, y);
@@ -1473,39 +1482,54 @@ public final class RectFile {
         }
 
         private void awaitEntries(Tree tree, int page, int x, int y) {
-            for (int i = 0; i < tree.size[page] && waits < waiting.length; i++) {
+            for (int i = 0; i < tree.size[page]; i++) {
                 int thing = tree.thingAt(page, i);
                 box.take(tree, thing);
-                waiting[waits] = thing;
-                far[waits] = box.farFrom(x, y);
-                waits++;
+                await(thing, box.farFrom(x, y));
             }
         }
 
-        private int nextToGo() {
-            int best = 0;
-            for (int i = 1; i < waits; i++) {
-                if (far[i] < far[best] || far[i] == far[best] && goesAhead(waiting[i], waiting[best])) {
-                    best = i;
-                }
+        private void await(int thing, int far) {
+            if (waits >= waiting.length) {
+                return;
             }
-            return best;
+            int turn = BEHIND_PAGES + thing;
+            if (thing >= IDS) {
+                turn = pagesCome;
+                pagesCome++;
+            }
+            long key = ((long) far << 32) + turn;
+            int at = waits;
+            waits++;
+            while (at > 0 && key < keys[(at - 1) / 2]) {
+                move((at - 1) / 2, at);
+                at = (at - 1) / 2;
+            }
+            waiting[at] = thing;
+            keys[at] = key;
         }
 
-        /** Whether a thing goes ahead of one as far that waits longer. */
-        private static boolean goesAhead(int thing, int older) {
-            if (older >= IDS) {
-                return false;
-            }
-            return thing >= IDS || thing < older;
-        }
-
-        private void letGo(int gone) {
+        private void dropFirst() {
             waits--;
-            for (int i = gone; i < waits; i++) {
-                waiting[i] = waiting[i + 1];
-                far[i] = far[i + 1];
+            long key = keys[waits];
+            int at = 0;
+            int next = lesserBelow(0);
+            while (next < waits && keys[next] < key) {
+                move(next, at);
+                at = next;
+                next = lesserBelow(at);
             }
+            move(waits, at);
+        }
+
+        private int lesserBelow(int at) {
+            int left = 2 * at + 1;
+            return left + 1 < waits && keys[left + 1] < keys[left] ? left + 1 : left;
+        }
+
+        private void move(int from, int to) {
+            waiting[to] = waiting[from];
+            keys[to] = keys[from];
         }
 
         private void makeRoom(int pages) {
@@ -1513,7 +1537,7 @@ public final class RectFile {
                 int room = Math.max(pages, 2 * looked.length);
                 looked = new boolean[room];
                 waiting = new int[IDS + room];
-                far = new int[IDS + room];
+                keys = new long[IDS + room];
             }
         }
     }
@@ -1671,23 +1695,25 @@ public final class RectFile {
         }
 
         long overlapOnLevel(Tree tree, int level) {
+            int found = 0;
             long sum = 0L;
-            for (int page = 0; page < tree.pages; page++) {
+            // A level has no more pages than there are rectangles, for none but a lone root is empty.
+            for (int page = 0; page < tree.pages && found < row.length; page++) {
                 if (tree.level[page] == level) {
                     one.take(tree, IDS + page);
-                    sum += overlapAhead(tree, page);
+                    sum += overlapWithRow(tree, found);
+                    row[found] = IDS + page;
+                    found++;
                 }
             }
             return sum;
         }
 
-        private long overlapAhead(Tree tree, int page) {
+        private long overlapWithRow(Tree tree, int things) {
             long sum = 0L;
-            for (int ahead = 0; ahead < page; ahead++) {
-                if (tree.level[ahead] == tree.level[page]) {
-                    other.take(tree, IDS + ahead);
-                    sum += one.areaWith(other);
-                }
+            for (int i = 0; i < things; i++) {
+                other.take(tree, row[i]);
+                sum += one.areaWith(other);
             }
             return sum;
         }

@@ -3,6 +3,7 @@ import java.util.Random;
 /** Runs of random calls on RectFile and on PlainFile: every answer must be alike. */
 public final class RandomRunsTest {
     private static int wrong = 0;
+    private static int deepest = 0;
     private static final int[] ODD = {Integer.MIN_VALUE, Integer.MAX_VALUE, -1001, 1001, -2001, 2001, -1, 0, 100, 2000};
 
     private final Random random;
@@ -227,6 +228,28 @@ public final class RandomRunsTest {
         }
     }
 
+    /** Small pages and rectangles that lie across one another make trees of many levels. */
+    private void runDeep() {
+        tell("page 3 1 " + (1 + random.nextInt(3)));
+        for (int i = 0; i < 250 && wrong == 0; i++) {
+            int x1 = random.nextInt(601) - 300;
+            int y1 = random.nextInt(601) - 300;
+            int id = random.nextInt(100);
+            int wide = random.nextInt(501);
+            int high = random.nextInt(501);
+            if (random.nextInt(8) < 7 - bias) {
+                like("put", real.put(id, x1, y1, x1 + wide, y1 + high), plain.put(id, x1, y1, x1 + wide, y1 + high));
+            } else if (random.nextInt(3) > 0) {
+                like("remove " + id, real.remove(id), plain.remove(id));
+            } else {
+                graft();
+            }
+            deepest = Math.max(deepest, plain.count(2));
+        }
+        ask();
+        lookAround();
+    }
+
     private static void texts(int runs) {
         for (int i = 0; i < runs && wrong == 0; i++) {
             Random random = new Random(7000 + i);
@@ -242,12 +265,16 @@ public final class RandomRunsTest {
         texts(runs);
         for (int i = 0; i < runs && wrong == 0; i++) {
             RandomRunsTest test = new RandomRunsTest(i);
-            test.run();
+            if (i % 20 == 0) {
+                test.runDeep();
+            } else {
+                test.run();
+            }
             if (wrong != 0) {
                 System.out.println("run " + i + ":\n" + test.log);
             }
         }
-        System.out.println(wrong == 0 ? "random runs: all answers are as due" : "random runs: wrong");
+        System.out.println(wrong == 0 ? "random runs: all answers are as due, up to " + deepest + " levels" : "random runs: wrong");
         if (wrong != 0) {
             System.exit(1);
         }
