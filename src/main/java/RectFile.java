@@ -1547,7 +1547,7 @@ public final class RectFile {
         private static final int GRID_LOW = -1024;
         private static final int GRID_STEP = 256;
         private static final int GRID_ACROSS = 8;
-        // Above the number of doublings between any measure of a tree and 1.
+        // Far above the number of doublings between any fill or cost and 1.
         private static final int MOST_DOUBLINGS = 100;
 
         private final int[] row;
@@ -1718,29 +1718,26 @@ public final class RectFile {
             return sum;
         }
 
-        /** The bits by hand, for the library that may be used has no function for them; no measure is below 0. */
-        static int bitsOf(float measure) {
-            if (measure <= 0.0f) {
+        /** The bits by hand, for the library that may be used has no function for them; a fill is from 0 to 1. */
+        static int bitsOf(float fill) {
+            if (fill <= 0.0f) {
                 return 0;
             }
-            float rest = measure;
+            float rest = fill;
             int exponent = 127;
             for (int i = 0; i < MOST_DOUBLINGS && rest < 1.0f; i++) {
                 rest = rest * 2.0f;
                 exponent--;
             }
-            for (int i = 0; i < MOST_DOUBLINGS && rest >= 2.0f; i++) {
-                rest = rest / 2.0f;
-                exponent++;
-            }
             return (exponent << 23) + (int) ((rest - 1.0f) * 8388608.0f);
         }
 
-        static long bitsOf(double measure) {
-            if (measure <= 0.0) {
+        /** A cost is 0 or more. */
+        static long bitsOf(double cost) {
+            if (cost <= 0.0) {
                 return 0L;
             }
-            double rest = measure;
+            double rest = cost;
             long exponent = 1023L;
             for (int i = 0; i < MOST_DOUBLINGS && rest < 1.0; i++) {
                 rest = rest * 2.0;

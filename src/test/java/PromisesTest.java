@@ -82,6 +82,16 @@ public final class PromisesTest {
         return f;
     }
 
+    /** A row of points, laid in tiles with two at least in a page: pages 2 to 4 in 1, 6 and 7 in 5. */
+    private static RectFile seventeenPoints() {
+        RectFile f = told("page 4 2 1");
+        for (int i = 0; i < 17; i++) {
+            f.put(i, 10 * i, 0, 10 * i, 0);
+        }
+        f.bulk();
+        return f;
+    }
+
     private static void newObject() {
         promise = 1;
         RectFile f = new RectFile();
@@ -135,6 +145,9 @@ public final class PromisesTest {
         dueFault("pag", 0, 1);
         dueFault(" pages 3 1 1", 1, 1);
         dueFault("Page 3 1 1", 0, 1);
+        dueFault("pagez 3 1 1", 0, 1);
+        dueFault("apage 3 1 1", 0, 1);
+        dueFault("page{3 1 1", 4, 1);
         dueFault("page", 4, 1);
         dueFault("page  ", 6, 1);
         dueFault("page -3 1 1", 5, 1);
@@ -284,11 +297,8 @@ public final class PromisesTest {
     /** Pages that went out give back pages, too: these come ahead of the rectangles, and the root is lowered last. */
     private static void removeHigher() {
         promise = 6;
-        RectFile f = told("page 4 2 1");
-        for (int i = 0; i < 17; i++) {
-            f.put(i, 10 * i, 0, 10 * i, 0);
-        }
-        due("bulk", f.bulk(), 8);
+        RectFile f = seventeenPoints();
+        due("pages", f.count(1), 8);
         dueEntries(f, 1, 2, 3, 4);
         dueEntries(f, 5, 6, 7);
         dueEntries(f, 6, 12, 13, 14);
@@ -331,6 +341,8 @@ public final class PromisesTest {
         due("count(8)", f.count(8), 1);
         due("to the edge", f.shift(0, 990, -1000) > 0 ? 1 : 0, 1);
         dueRect(f, 0, 990, -1000, 1000, -990);
+        due("to the edge", f.shift(1, -1100, 970) > 0 ? 1 : 0, 1);
+        dueRect(f, 1, -1000, 990, -990, 1000);
         due("count(0)", f.count(0), 5);
     }
 
@@ -382,11 +394,20 @@ public final class PromisesTest {
         dueEntries(f, 6, 5, 4, 3);
         dueBox(f, 1, 0, 0, 90, 90);
         dueBox(f, 4, 30, 30, 60, 60);
+        due("but one", f.graft(2, 4), 3);
+        dueEntries(f, 0, 1, 3);
+        dueEntries(f, 1, 2);
+        dueEntries(f, 3, 4, 5, 6);
+        dueBox(f, 1, 70, 0, 90, 20);
         f = tenPoints();
         f.remove(7);
         f.remove(8);
         f.remove(9);
         due("too few", f.graft(5, 1), -6);
+        f = seventeenPoints();
+        due("too few", f.graft(6, 1), -6);
+        due("enough", f.graft(2, 5), 3);
+        due("too few", f.graft(2, 4), -6);
     }
 
     private static long next(long x) {
@@ -620,7 +641,10 @@ public final class PromisesTest {
         due("midst, pages", f.nearest(55, 5, 0, 2), 3);
         due("midst, next", f.nearest(55, 5, 1, 0), 2);
         due("the edge", f.nearest(-2000, 2000, 0, 1), 2000 * 2000 + 1970 * 1970);
+        due("the edge", f.nearest(2000, -2000, 0, 1), 1890 * 1890 + 2000 * 2000);
         due("x", f.nearest(2001, 0, 0, 0), NONE);
+        due("x", f.nearest(-2001, 0, 0, 0), NONE);
+        due("y", f.nearest(0, 2001, 0, 0), NONE);
         due("y", f.nearest(0, -2001, 0, 0), NONE);
         due("k", f.nearest(0, 0, -1, 0), NONE);
         due("what", f.nearest(0, 0, 0, 3), NONE);

@@ -125,6 +125,10 @@ public final class RandomRunsTest {
         int pages = Math.max(1, plain.count(1));
         int page = odd(random.nextInt(pages + 1));
         int into = odd(random.nextInt(pages + 1));
+        // Of two by chance few have levels that fit: so others are looked for.
+        for (int i = 0; i < 20 && plain.page(into, 4) != plain.page(page, 4) + 1; i++) {
+            into = odd(random.nextInt(pages + 1));
+        }
         like("graft " + page + " " + into, real.graft(page, into), plain.graft(page, into));
     }
 
