@@ -1,99 +1,7 @@
 /** Each promise by itself, with answers worked out by hand from the document. */
-public final class PromisesTest {
-    private static final int NONE = RectFile.NONE;
-    private static final int MIN = Integer.MIN_VALUE;
-    private static final int MAX = Integer.MAX_VALUE;
-    private static int wrong = 0;
-    private static int promise = 0;
-
-    private static void due(String what, long got, long want) {
-        if (got != want) {
-            wrong++;
-            System.out.println("promise " + promise + ": " + what + " answered " + got + ", due is " + want);
-        }
-    }
-
-    private static int feedText(RectFile f, String text) {
-        int bytes = 0;
-        for (int i = 0; i < text.length(); i += 20) {
-            int[] n = new int[5];
-            for (int j = 0; j < 20; j++) {
-                n[j / 4] = n[j / 4] << 8 | (i + j < text.length() ? text.charAt(i + j) : 0);
-            }
-            bytes = f.feed(n[0], n[1], n[2], n[3], n[4]);
-        }
-        return bytes < text.length() ? bytes : f.end(text.length());
-    }
-
-    private static int tell(RectFile f, String text) {
-        f.end(0);
-        feedText(f, text);
-        return f.file();
-    }
-
-    private static RectFile told(String text) {
-        RectFile f = new RectFile();
-        if (tell(f, text) < 0) {
-            wrong++;
-            System.out.println("promise " + promise + ": no file told by " + text);
-        }
-        return f;
-    }
-
-    private static void dueFault(String text, int place, int kind) {
-        due("file of \"" + text + "\"", tell(new RectFile(), text), -2 - (8 * place + kind));
-    }
-
-    private static void dueEntries(RectFile f, int page, int... entries) {
-        due("page(" + page + ", 5)", f.page(page, 5), entries.length);
-        for (int i = 0; i < entries.length; i++) {
-            due("entry(" + page + ", " + i + ")", f.entry(page, i), entries[i]);
-        }
-        due("entry(" + page + ", " + entries.length + ")", f.entry(page, entries.length), NONE);
-    }
-
-    private static void dueBox(RectFile f, int page, int x1, int y1, int x2, int y2) {
-        due("page(" + page + ", 0)", f.page(page, 0), x1);
-        due("page(" + page + ", 1)", f.page(page, 1), y1);
-        due("page(" + page + ", 2)", f.page(page, 2), x2);
-        due("page(" + page + ", 3)", f.page(page, 3), y2);
-    }
-
-    private static void dueRect(RectFile f, int id, int x1, int y1, int x2, int y2) {
-        due("rect(" + id + ", 0)", f.rect(id, 0), x1);
-        due("rect(" + id + ", 1)", f.rect(id, 1), y1);
-        due("rect(" + id + ", 2)", f.rect(id, 2), x2);
-        due("rect(" + id + ", 3)", f.rect(id, 3), y2);
-    }
-
-    /** Two columns: 0 and 1 in page 1, 2, 3 and 4 in page 2, split along x. */
-    private static RectFile twoColumns() {
-        return told("page 4 2 1; rect 0 0 0 10 10; rect 1 0 20 10 30;"
-                + " rect 2 100 0 110 10; rect 3 100 20 110 30; rect 4 100 40 110 50");
-    }
-
-    /** Ten points from the left above to the right below, laid in tiles: pages 2 to 4 in 1, 6 in 5. */
-    private static RectFile tenPoints() {
-        RectFile f = told("page 3 1 1");
-        for (int i = 0; i < 10; i++) {
-            f.put(i, 10 * i, 90 - 10 * i, 10 * i, 90 - 10 * i);
-        }
-        f.bulk();
-        return f;
-    }
-
-    /** A row of points, laid in tiles with two at least in a page: pages 2 to 4 in 1, 6 and 7 in 5. */
-    private static RectFile seventeenPoints() {
-        RectFile f = told("page 4 2 1");
-        for (int i = 0; i < 17; i++) {
-            f.put(i, 10 * i, 0, 10 * i, 0);
-        }
-        f.bulk();
-        return f;
-    }
-
+public final class PromisesTest extends Checks {
     private static void newObject() {
-        promise = 1;
+        about("promise 1");
         RectFile f = new RectFile();
         for (int what = 0; what <= 11; what++) {
             due("count(" + what + ")", f.count(what), 0);
@@ -105,7 +13,7 @@ public final class PromisesTest {
     }
 
     private static void feed() {
-        promise = 2;
+        about("promise 2");
         RectFile f = new RectFile();
         for (int i = 1; i <= 15; i++) {
             due("feed " + i, f.feed(-1, 0, MIN, MAX, i), 20 * i);
@@ -124,7 +32,7 @@ public final class PromisesTest {
     }
 
     private static void end() {
-        promise = 3;
+        about("promise 3");
         RectFile f = new RectFile();
         due("end(0)", f.end(0), 0);
         due("end(1)", f.end(1), NONE);
@@ -139,7 +47,7 @@ public final class PromisesTest {
     }
 
     private static void fileFaults() {
-        promise = 4;
+        about("promise 4");
         dueFault("", 0, 1);
         dueFault("   ", 3, 1);
         dueFault("pag", 0, 1);
@@ -186,7 +94,7 @@ public final class PromisesTest {
     }
 
     private static void file() {
-        promise = 4;
+        about("promise 4");
         due("blanks as one likes", tell(new RectFile(), "  page3 1 1 ;rect1-5-5 5 5 ; rect 002 -0 0 0 00  "), 2);
         due("edges", tell(new RectFile(), "page8 4 3;rect99-1000-1000 1000 1000;rect0 1000 1000 1000 1000"), 2);
         StringBuilder twenty = new StringBuilder("page3 1 1");
@@ -218,7 +126,7 @@ public final class PromisesTest {
     }
 
     private static void put() {
-        promise = 5;
+        about("promise 5");
         RectFile f = told("page 4 2 1");
         due("put 0", f.put(0, 0, 0, 10, 10), 1);
         due("put 0 again", f.put(0, 0, 0, 10, 10), -2);
@@ -245,7 +153,7 @@ public final class PromisesTest {
 
     /** A page that is too full puts its farthest in once more, and is split when it comes back. */
     private static void putReinserts() {
-        promise = 5;
+        about("promise 5");
         RectFile f = twoColumns();
         f.put(5, 100, 60, 110, 70);
         dueEntries(f, 2, 2, 3, 4, 5);
@@ -259,7 +167,7 @@ public final class PromisesTest {
     }
 
     private static void remove() {
-        promise = 6;
+        about("promise 6");
         RectFile f = twoColumns();
         due("remove 9", f.remove(9), NONE);
         due("remove -1", f.remove(-1), NONE);
@@ -283,7 +191,7 @@ public final class PromisesTest {
 
     /** A page that is empty goes out, then that which had it alone; the root is lowered. */
     private static void removeLast() {
-        promise = 6;
+        about("promise 6");
         RectFile f = tenPoints();
         due("remove 6", f.remove(6), 4);
         // Page 6 and page 5 went out, and the root has page 1 alone.
@@ -296,7 +204,7 @@ public final class PromisesTest {
 
     /** Pages that went out give back pages, too: these come ahead of the rectangles, and the root is lowered last. */
     private static void removeHigher() {
-        promise = 6;
+        about("promise 6");
         RectFile f = seventeenPoints();
         due("pages", f.count(1), 8);
         dueEntries(f, 1, 2, 3, 4);
@@ -321,7 +229,7 @@ public final class PromisesTest {
     }
 
     private static void shift() {
-        promise = 7;
+        about("promise 7");
         RectFile f = twoColumns();
         due("without", f.shift(7, 0, 0), NONE);
         due("id", f.shift(-1, 0, 0), NONE);
@@ -347,7 +255,7 @@ public final class PromisesTest {
     }
 
     private static void bulk() {
-        promise = 8;
+        about("promise 8");
         due("no file", new RectFile().bulk(), NONE);
         RectFile f = told("page 4 2 1");
         due("empty", f.bulk(), 1);
@@ -370,7 +278,7 @@ public final class PromisesTest {
     }
 
     private static void graft() {
-        promise = 9;
+        about("promise 9");
         due("no file", new RectFile().graft(1, 0), NONE);
         RectFile f = tenPoints();
         due("the root", f.graft(0, 1), NONE);
@@ -415,7 +323,7 @@ public final class PromisesTest {
     }
 
     private static void drawn() {
-        promise = 10;
+        about("promise 10");
         due("no file", new RectFile().drawn(1), NONE);
         RectFile f = told("page 5 2 2; rect 1 0 0 1 1");
         due("0", f.drawn(0), NONE);
@@ -448,7 +356,7 @@ public final class PromisesTest {
     }
 
     private static void draws() {
-        promise = 11;
+        about("promise 11");
         RectFile f = new RectFile();
         due("draws(9)", f.draws(9), 0);
         due("draws(-1)", f.draws(-1), NONE);
@@ -459,7 +367,7 @@ public final class PromisesTest {
     }
 
     private static void undo() {
-        promise = 12;
+        about("promise 12");
         RectFile f = twoColumns();
         due("none", f.undo(), NONE);
         f.keep(0);
@@ -497,7 +405,7 @@ public final class PromisesTest {
     }
 
     private static void keepAndBack() {
-        promise = 13;
+        about("promise 13");
         due("no file", new RectFile().keep(0), NONE);
         RectFile f = twoColumns();
         due("keep 2", f.keep(2), NONE);
@@ -508,7 +416,7 @@ public final class PromisesTest {
         due("keep 0", f.keep(0), 5);
         due("count(11)", f.count(11), 3);
 
-        promise = 14;
+        about("promise 14");
         due("no shelf", f.back(2), NONE);
         due("no shelf", f.back(-1), NONE);
         due("nothing", new RectFile().back(1), -2);
@@ -532,7 +440,7 @@ public final class PromisesTest {
     }
 
     private static void rect() {
-        promise = 15;
+        about("promise 15");
         RectFile f = tenPoints();
         dueRect(f, 9, 90, 0, 90, 0);
         due("rect(9, 4)", f.rect(9, 4), 4);
@@ -548,7 +456,7 @@ public final class PromisesTest {
     }
 
     private static void page() {
-        promise = 16;
+        about("promise 16");
         RectFile f = tenPoints();
         dueBox(f, 0, 0, 0, 90, 90);
         dueBox(f, 4, 70, 0, 90, 20);
@@ -571,7 +479,7 @@ public final class PromisesTest {
     }
 
     private static void entry() {
-        promise = 17;
+        about("promise 17");
         RectFile f = tenPoints();
         dueEntries(f, 0, 1, 5);
         dueEntries(f, 4, 9, 8, 7);
@@ -583,7 +491,7 @@ public final class PromisesTest {
     }
 
     private static void choose() {
-        promise = 18;
+        about("promise 18");
         due("no file", new RectFile().choose(0, 0, 1, 1), NONE);
         due("empty", told("page 3 1 1").choose(0, 0, 1, 1), 0);
         RectFile f = twoColumns();
@@ -601,7 +509,7 @@ public final class PromisesTest {
     }
 
     private static void window() {
-        promise = 19;
+        about("promise 19");
         due("no file", new RectFile().window(0, 0, 1, 1, -1), NONE);
         RectFile f = twoColumns();
         due("all", f.window(MIN, MIN, MAX, MAX, -1), 5);
@@ -623,7 +531,7 @@ public final class PromisesTest {
     }
 
     private static void nearest() {
-        promise = 20;
+        about("promise 20");
         due("no file", new RectFile().nearest(0, 0, 0, 0), NONE);
         RectFile f = twoColumns();
         due("0th", f.nearest(-3, -4, 0, 0), 0);
@@ -653,7 +561,7 @@ public final class PromisesTest {
     }
 
     private static void pairs() {
-        promise = 21;
+        about("promise 21");
         due("no file", new RectFile().pairs(), NONE);
         due("empty", told("page 3 1 1").pairs(), 0);
         RectFile f = told("page 8 1 1; rect 5 0 0 10 10; rect 4 10 10 20 20; rect 3 20 0 30 10; rect 2 0 11 9 12");
@@ -664,7 +572,7 @@ public final class PromisesTest {
     }
 
     private static void union() {
-        promise = 22;
+        about("promise 22");
         due("no file", new RectFile().union(), NONE);
         due("empty", told("page 3 1 1").union(), 0);
         RectFile f = told("page 8 1 1; rect 5 0 0 10 10; rect 4 5 5 15 15; rect 3 5 5 15 15; rect 2 -50 3 50 3");
@@ -675,7 +583,7 @@ public final class PromisesTest {
     }
 
     private static void grid() {
-        promise = 23;
+        about("promise 23");
         due("no file", new RectFile().grid(0), 0);
         RectFile f = told("page 3 1 1; rect 0 -1 -1 0 0");
         due("four", f.grid(0), 1L << 27 | 1L << 28 | 1L << 35 | 1L << 36);
@@ -691,7 +599,7 @@ public final class PromisesTest {
     }
 
     private static void fill() {
-        promise = 24;
+        about("promise 24");
         due("no file", new RectFile().fill(), NONE);
         due("empty", told("page 3 1 1").fill(), 0);
         due("full", told("page 3 1 1;rect 0 0 0 0 0;rect 1 0 0 0 0;rect 2 0 0 0 0").fill(), Float.floatToIntBits(1.0f));
@@ -700,7 +608,7 @@ public final class PromisesTest {
     }
 
     private static void cost() {
-        promise = 25;
+        about("promise 25");
         due("no file", new RectFile().cost(0, 0), NONE);
         due("empty", told("page 3 1 1").cost(2000, 2000), 0);
         RectFile f = twoColumns();
@@ -715,7 +623,7 @@ public final class PromisesTest {
     }
 
     private static void overlap() {
-        promise = 26;
+        about("promise 26");
         due("no file", new RectFile().overlap(0), NONE);
         RectFile f = tenPoints();
         due("leaves", f.overlap(0), 0);
@@ -729,7 +637,7 @@ public final class PromisesTest {
     }
 
     private static void same() {
-        promise = 27;
+        about("promise 27");
         RectFile f = twoColumns();
         due("no file", new RectFile().same(0), NONE);
         due("nothing", f.same(0), -2);
@@ -756,7 +664,7 @@ public final class PromisesTest {
     }
 
     private static void count() {
-        promise = 28;
+        about("promise 28");
         RectFile f = tenPoints();
         f.draws(6);
         f.keep(0);
@@ -807,9 +715,6 @@ public final class PromisesTest {
         overlap();
         same();
         count();
-        System.out.println(wrong == 0 ? "promises: all answers are as due" : "promises: " + wrong + " wrong");
-        if (wrong != 0) {
-            System.exit(1);
-        }
+        finish("promises");
     }
 }
