@@ -1514,7 +1514,7 @@ public final class RectFile {
             long key = keys[waits];
             int at = 0;
             int next = lesserBelow(0);
-            while (next < waits && keys[next] < key) {
+            for (int steps = 0; next < waits && keys[next] < key && steps < waits; steps++) {
                 move(next, at);
                 at = next;
                 next = lesserBelow(at);

@@ -135,6 +135,23 @@ public final class AskEdgesTest extends Checks {
         }
     }
 
+    /** As many wait at once as can be: 100 at one place behind all pages. */
+    private static void nearestOfAll() {
+        about("NEAREST of 100 at one place");
+        for (int most : new int[] {3, 8}) {
+            RectFile f = told("page " + most + " 1 1");
+            for (int id = 99; id >= 0; id--) {
+                f.put(id, 8, 8, 8, 8);
+            }
+            for (int k = 0; k < 100; k++) {
+                due("the " + k + "th", f.nearest(5, 4, k, 0), k);
+                due("far", f.nearest(5, 4, k, 1), 25);
+                due("opened", f.nearest(5, 4, k, 2), f.count(1));
+            }
+            due("not so many", f.nearest(5, 4, 100, 0), -2);
+        }
+    }
+
     private static int square(int n) {
         return n * n;
     }
@@ -191,6 +208,9 @@ public final class AskEdgesTest extends Checks {
             f.put(id, id - 50, -1000, id - 49, 1000);
         }
         due("100 stripes", f.union(), 200000);
+        // Told neither by x nor by y.
+        f = told("page 3 1 1; rect 1 7 20 9 30; rect 2 8 0 12 4; rect 3 0 2 10 25; rect 4 3 1 4 40");
+        due("in any order", f.union(), 230 + 2 * 5 + 16 - 2 * 2 + 16);
         // Two that leave a hole between them, and one above another.
         f = told("page 3 1 1; rect 1 0 0 10 2; rect 2 0 5 10 8; rect 3 4 1 6 6; rect 4 0 2 3 5");
         due("a hole", f.union(), 20 + 30 + 2 * 3 + 9);
@@ -222,11 +242,12 @@ public final class AskEdgesTest extends Checks {
         due("MAX", f.grid(MAX), 0);
         f = twoColumns();
         due("rects", f.grid(0), 1L << 36);
-        f = tenPoints();
-        f.shift(0, -1000, 0);
-        // 0 is alone at -1000, 90; the page it is in reaches from there to the others in it.
-        due("rects", f.grid(0), 1L << 32 | 1L << 36);
-        due("no more than the leaf's squares", f.grid(1) & ~(31L << 32), 0);
+        // Two leaves: in the first two squares of the first row, and in the last four of the second.
+        f = told("page 4 2 1; rect 0 -1000 -1000 -1000 -1000; rect 1 -600 -1000 -600 -1000;"
+                + "rect 2 900 -600 900 -600;rect 3 600 -700 600 -700; rect 4 0 -600 0 -600");
+        dueTree(f, "[[0 1] [4 3 2]]");
+        due("rects", f.grid(0), 3L | 1L << 12 | 1L << 14 | 1L << 15);
+        due("leaves", f.grid(1), 3L | 15L << 12);
         due("an empty file's leaves", told("page 3 1 1").grid(1), 0);
         due("an empty file's rects", told("page 3 1 1").grid(0), 0);
     }
@@ -620,6 +641,15 @@ public final class AskEdgesTest extends Checks {
         g.bulk();
         dueTree(g, "[[0 1 2] [3]]");
         due("other sizes", g.same(0), 0);
+        g = told("page 3 1 1");
+        for (int i = 0; i < 4; i++) {
+            g.put(i, 5, 5, 5, 5);
+        }
+        dueTree(g, "[[0] [1 2 3]]");
+        g.keep(0);
+        g.bulk();
+        dueTree(g, "[[0 1 2] [3]]");
+        due("other sizes, like BOXES", g.same(0), 0);
     }
 
     /** A file told anew has nothing of the one there was but x and the SHELVES. */
@@ -652,6 +682,7 @@ public final class AskEdgesTest extends Checks {
         nearestFar();
         nearestRefused();
         nearestOrder();
+        nearestOfAll();
         pairsMeet();
         unions();
         gridSquares();

@@ -1,6 +1,3 @@
-import java.lang.reflect.Method;
-import java.util.Arrays;
-import java.util.List;
 import java.util.Random;
 
 /**
@@ -9,56 +6,21 @@ import java.util.Random;
  */
 public final class LifeTest extends Checks {
     private static final int CALLS = 512;
-    private static final List<String> NAMES = List.of("feed", "end", "file", "put", "remove", "shift", "bulk", "graft",
-            "drawn", "draws", "undo", "keep", "back", "rect", "page", "entry", "choose", "window", "nearest", "pairs",
-            "union", "grid", "fill", "cost", "overlap", "same", "count");
-    private static final Method[] REAL = methodsOf(RectFile.class);
-    private static final Method[] PLAIN = methodsOf(PlainFile.class);
     private static final int[] EDGES = {MIN, MIN + 1, -2001, -2000, -1025, -1024, -1001, -1000, -3, -2, -1, 0, 1, 2, 3, 4,
         5, 6, 7, 8, 9, 10, 11, 12, 19, 20, 21, 50, 98, 99, 100, 101, 255, 256, 299, 300, 301, 999, 1000, 1001, 1999, 2000,
         2001, MAX - 1, MAX};
 
     private final Random random;
-    private final RectFile real = new RectFile();
-    private final PlainFile plain = new PlainFile();
-    private int calls = 0;
+    private final Twin twin = new Twin();
 
     private LifeTest(long seed) {
         random = new Random(seed);
     }
 
-    private static Method[] methodsOf(Class<?> which) {
-        Method[] methods = new Method[NAMES.size()];
-        for (Method m : which.getDeclaredMethods()) {
-            int kind = NAMES.indexOf(m.getName());
-            // PlainFile has helpers of like names, over arrays.
-            if (kind >= 0 && Arrays.stream(m.getParameterTypes()).allMatch(int.class::equals)) {
-                methods[kind] = m;
-            }
-        }
-        return methods;
-    }
-
-    private static String answer(Object file, Method method, int[] from) {
-        Object[] a = new Object[method.getParameterCount()];
-        for (int i = 0; i < a.length; i++) {
-            a[i] = from[i];
-        }
-        try {
-            return method.invoke(file, a).toString();
-        } catch (ReflectiveOperationException e) {
-            return "threw " + e.getCause();
-        }
-    }
-
     private void call(String name, int... a) {
-        if (calls >= CALLS) {
-            return;
+        if (twin.calls < CALLS) {
+            twin.call(name, a);
         }
-        calls++;
-        int kind = NAMES.indexOf(name);
-        dueText("call " + calls + ", " + name + Arrays.toString(a), answer(real, REAL[kind], a),
-                answer(plain, PLAIN[kind], a));
     }
 
     private int edge() {
@@ -66,12 +28,12 @@ public final class LifeTest extends Checks {
     }
 
     private void callAtEdges() {
-        int kind = random.nextInt(NAMES.size());
+        int kind = random.nextInt(Twin.NAMES.size());
         // The tape would be empty and full all the time.
         if (kind <= 2 && random.nextInt(4) > 0) {
             kind = 3 + random.nextInt(8);
         }
-        call(NAMES.get(kind), edge(), edge(), edge(), edge(), edge());
+        call(Twin.NAMES.get(kind), edge(), edge(), edge(), edge(), edge());
     }
 
     private void callAsUsual() {
@@ -80,8 +42,8 @@ public final class LifeTest extends Checks {
         int x2 = Math.min(1000, x1 + random.nextInt(random.nextBoolean() ? 101 : 1001));
         int y2 = Math.min(1000, y1 + random.nextInt(random.nextBoolean() ? 101 : 1001));
         int id = random.nextInt(100);
-        int page = random.nextInt(Math.max(1, plain.count(1)));
-        int other = random.nextInt(Math.max(1, plain.count(1)));
+        int page = random.nextInt(Math.max(1, twin.plain.count(1)));
+        int other = random.nextInt(Math.max(1, twin.plain.count(1)));
         switch (random.nextInt(12)) {
             case 0:
                 call("remove", id);
@@ -117,31 +79,19 @@ public final class LifeTest extends Checks {
         }
     }
 
-    private void tellOne() {
-        String text = RandomRunsTest.text(random, 1000, 300, 14);
-        call("end", 0);
-        for (int i = 0; i < text.length(); i += 20) {
-            int[] n = new int[5];
-            for (int j = 0; j < 20; j++) {
-                n[j / 4] = n[j / 4] << 8 | (i + j < text.length() ? text.charAt(i + j) : ' ');
-            }
-            call("feed", n);
-        }
-        call("file");
-    }
-
     private void live(int edgesOfTen) {
-        for (int turn = 0; calls < CALLS; turn++) {
-            if (turn == 5 || random.nextInt(300) == 0) {
-                tellOne();
+        for (int turn = 0; twin.calls < CALLS; turn++) {
+            if ((turn == 5 || random.nextInt(300) == 0) && twin.calls < CALLS - 20) {
+                twin.tell(RandomRunsTest.text(random, 1000, 300, 14));
             } else if (random.nextInt(10) < edgesOfTen) {
                 callAtEdges();
             } else {
                 callAsUsual();
             }
         }
-        if (real.count(1) > 0) {
-            dueSound(real);
+        due("calls", twin.calls, CALLS);
+        if (twin.plain.count(1) > 0) {
+            dueSound(twin.real);
         }
     }
 

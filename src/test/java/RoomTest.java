@@ -1,15 +1,9 @@
-import java.lang.management.ManagementFactory;
 import java.util.Random;
 
 /** 512 calls on trees of many levels and pages must stay far below the room in which all calls of a run live. */
 public final class RoomTest {
     // An eighth of 7.3 million elements, were each of four bytes.
     private static final long MOST_BYTES = 7300000L * 4 / 8;
-
-    private static long allocated() {
-        com.sun.management.ThreadMXBean bean = (com.sun.management.ThreadMXBean) ManagementFactory.getThreadMXBean();
-        return bean.getThreadAllocatedBytes(Thread.currentThread().getId());
-    }
 
     private static int pages(long seed) {
         Random random = new Random(seed);
@@ -43,9 +37,9 @@ public final class RoomTest {
         int most = 0;
         long dearest = 0;
         for (int seed = 0; seed < 40; seed++) {
-            long before = allocated();
+            long before = Twin.allocated();
             most = Math.max(most, pages(seed));
-            dearest = Math.max(dearest, allocated() - before);
+            dearest = Math.max(dearest, Twin.allocated() - before);
         }
         System.out.println("room: " + dearest + " bytes for a run with up to " + most + " pages");
         if (dearest > MOST_BYTES) {

@@ -216,17 +216,20 @@ public final class TreeEdgesTest extends Checks {
     private static void reinsertsFarthest() {
         about("REINSERT, the farthest");
         String[] want = {"[[1 0 2 6] [4 5 3]]", "[[0 2 6 1] [4 5 3]]", "[[2 6 0 1] [4 5 3]]"};
-        for (int again = 1; again <= 3; again++) {
+        for (int i = 0; i < 9; i++) {
+            int again = i % 3 + 1;
+            int dx = -300 * (i / 3);
+            int dy = 170 * (i / 3);
             RectFile f = empty(4, 2, again);
             int[][] points = {{0, 250}, {250, 0}, {250, 400}, {500, 500}, {500, 510}, {500, 520}};
-            for (int i = 0; i < points.length; i++) {
-                f.put(i, points[i][0], points[i][1], points[i][0], points[i][1]);
+            for (int id = 0; id < points.length; id++) {
+                f.put(id, points[id][0] + dx, points[id][1] + dy, points[id][0] + dx, points[id][1] + dy);
             }
             f.bulk();
             dueTree(f, "[[1 0 2 3] [4 5]]");
             int splits = f.count(6);
             int reinserts = f.count(7);
-            due("pages", f.put(6, 250, 250, 250, 250), 3);
+            due("pages", f.put(6, 250 + dx, 250 + dy, 250 + dx, 250 + dy), 3);
             dueTree(f, want[again - 1]);
             due("reinserts", f.count(7) - reinserts, 1);
             due("splits", f.count(6) - splits, 0);
@@ -299,6 +302,50 @@ public final class TreeEdgesTest extends Checks {
         dueTree(spans(4, 2, 0, 10, 50, 60, 70, 80, 90, 100, 110, 120), "[[0 1] [2 3 4]]");
         dueTree(spans(4, 2, 0, 10, 20, 30, 40, 50, 60, 70, 110, 120), "[[0 1] [2 3 4]]");
         dueTree(spans(4, 2, 0, 10, 20, 30, 40, 50, 61, 70, 110, 120), "[[0 1 2] [3 4]]");
+    }
+
+    private static RectFile rects(int... sides) {
+        RectFile f = empty(3, 1, 1);
+        for (int i = 0; i < sides.length / 4; i++) {
+            f.put(i, sides[4 * i], sides[4 * i + 1], sides[4 * i + 2], sides[4 * i + 3]);
+        }
+        return f;
+    }
+
+    /** The same with x and y in each other's place: alike but where x goes ahead. */
+    private static RectFile turned(int... sides) {
+        int[] other = new int[sides.length];
+        for (int i = 0; i < sides.length; i++) {
+            other[i] = sides[i ^ 1];
+        }
+        return rects(other);
+    }
+
+    private static void splitOrdersAlike() {
+        about("SPLIT, one side alike");
+        // By the low side, then the high one: 1, 0, 2, 3.
+        int[] low = {0, 0, 10, 1, 0, 0, 2, 1, 5, 0, 6, 1, 20, 0, 30, 1};
+        dueTree(rects(low), "[[1 0 2] [3]]");
+        dueTree(turned(low), "[[1 0 2] [3]]");
+        // By the high side, then the low one: 0, 2, 3, 1; 2 would overlap, of the first ORDER 3 at least.
+        int[] high = {1, 0, 3, 1, 7, 0, 10, 1, 4, 0, 6, 1, 0, 0, 10, 1};
+        dueTree(rects(high), "[[0] [2 3 1]]");
+        dueTree(turned(high), "[[0] [2 3 1]]");
+    }
+
+    private static void splitMargins() {
+        about("SPLIT, MARGINS of both ORDERS");
+        // x: 40 and 44, y: 40 and 43.
+        dueTree(rects(0, 1, 1, 4, 1, 0, 2, 1, 0, 0, 3, 7, 0, 0, 3, 1), "[[1] [3 2 0]]");
+        // x: 32 and 31, y: 31 and 31.
+        dueTree(rects(1, 1, 4, 1, 2, 0, 2, 1, 0, 2, 1, 3, 6, 1, 6, 3), "[[1] [0 3 2]]");
+        // x: 37 and 37, y: 36 and 40.
+        dueTree(rects(0, 1, 1, 1, 0, 1, 0, 5, 4, 0, 6, 2, 2, 3, 2, 4), "[[1 0 3] [2]]");
+        // x: 45 and 43, y: 43 and 44; by the high side none would overlap, with AREAS of 20 together.
+        dueTree(rects(0, 0, 1, 2, 0, 1, 5, 1, 0, 4, 4, 5, 3, 0, 3, 4), "[[1] [0 3 2]]");
+        about("SPLIT, OVERLAP ahead of AREAS");
+        // None would overlap, with AREAS of 24; with 3 behind 2 and 0 2 would, with AREAS of 16.
+        dueTree(rects(1, 1, 1, 2, 1, 2, 2, 9, 0, 1, 1, 2, 0, 1, 3, 4), "[[0] [2 3 1]]");
     }
 
     // ---- removed, shifted
@@ -577,6 +624,8 @@ public final class TreeEdgesTest extends Checks {
         reinsertsOnLevels();
         splitAxis();
         splitOrders();
+        splitOrdersAlike();
+        splitMargins();
         shiftReinsertsInBoth();
         removeReinsertsOnce();
         rootLowered();
