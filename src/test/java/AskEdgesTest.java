@@ -275,7 +275,15 @@ public final class AskEdgesTest extends Checks {
             due("w", f.cost(wrong, 0), NONE);
             due("h", f.cost(0, wrong), NONE);
         }
+        f = told("page 3 1 1; rect 0 -1000 -1000 1000 1000");
+        for (int w = 0; w <= 2000; w++) {
+            due("2 to 4", f.cost(w, 2000), Double.doubleToLongBits((2000 + w) * 4000.0 / 4000000.0));
+            due("1 to 2", f.cost(0, w), Double.doubleToLongBits((2000 + w) * 2000.0 / 4000000.0));
+        }
         f = told("page 3 1 1; rect 0 0 0 0 0");
+        for (int w = 1; w <= 2000; w++) {
+            due("to 1", f.cost(w, 2001 - w), Double.doubleToLongBits((double) w * (double) (2001 - w) / 4000000.0));
+        }
         due("a point", f.cost(0, 0), 0);
         due("a point", f.cost(0, 2000), 0);
         due("least", f.cost(1, 1), Double.doubleToLongBits(1.0 / 4000000.0));
@@ -286,6 +294,51 @@ public final class AskEdgesTest extends Checks {
         }
         due("dearest", f.cost(2000, 2000), Double.doubleToLongBits(f.count(1) * 4.0));
         due("each 2", f.cost(0, 2000), Double.doubleToLongBits(f.count(1) * 2.0));
+    }
+
+    /** Of fewer and fewer pages, by the boxes that page() tells: nothing of a page that is no more counts. */
+    private static void measuredByPages() {
+        about("GRID, COST, OVERLAP by the BOXES of PAGES");
+        RectFile f = told("page 3 1 1");
+        for (int i = 0; i < 5; i++) {
+            f.drawn(20);
+        }
+        for (int id = 0; id < 100; id++) {
+            long bits = 0;
+            double cost = 0.0;
+            long[] overlaps = new long[f.count(2)];
+            for (int page = 0; page < f.count(1); page++) {
+                bits |= f.page(page, 4) == 0 ? squares(f, page) : 0;
+                cost += (f.page(page, 2) - f.page(page, 0) + 5.0) * (f.page(page, 3) - f.page(page, 1) + 9.0);
+                for (int other = 0; other < page; other++) {
+                    overlaps[f.page(page, 4)] += f.page(page, 4) == f.page(other, 4) ? overlap(f, page, other) : 0;
+                }
+            }
+            due("grid", f.grid(1), bits);
+            due("cost", f.cost(5, 9), Double.doubleToLongBits(cost / 4000000.0));
+            for (int level = 0; level < overlaps.length; level++) {
+                due("overlap " + level, f.overlap(level), overlaps[level]);
+            }
+            f.remove(id);
+        }
+    }
+
+    private static long squares(RectFile f, int page) {
+        long bits = 0;
+        for (int bit = 0; bit < 64; bit++) {
+            int x = -1024 + 256 * (bit % 8);
+            int y = -1024 + 256 * (bit / 8);
+            boolean beside = f.page(page, 2) < x || f.page(page, 0) >= x + 256;
+            boolean aboveOrBelow = f.page(page, 3) < y || f.page(page, 1) >= y + 256;
+            bits |= beside || aboveOrBelow ? 0 : 1L << bit;
+        }
+        return bits;
+    }
+
+    private static long overlap(RectFile f, int one, int other) {
+        int wide = Math.min(f.page(one, 2), f.page(other, 2)) - Math.max(f.page(one, 0), f.page(other, 0));
+        int high = Math.min(f.page(one, 3), f.page(other, 3)) - Math.max(f.page(one, 1), f.page(other, 1));
+        return wide > 0 && high > 0 ? (long) wide * high : 0;
     }
 
     // ---- what there is not
@@ -650,6 +703,12 @@ public final class AskEdgesTest extends Checks {
         g.bulk();
         dueTree(g, "[[0 1 2] [3]]");
         due("other sizes, like BOXES", g.same(0), 0);
+        g = told("page 3 1 1; rect 99 0 0 5 5");
+        g.keep(0);
+        g.put(98, 1, 2, 3, 4);
+        due("one more", g.same(0), 0);
+        g.remove(98);
+        due("one that is no more is no part", g.same(0), 1);
     }
 
     /** A file told anew has nothing of the one there was but x and the SHELVES. */
@@ -687,6 +746,7 @@ public final class AskEdgesTest extends Checks {
         unions();
         gridSquares();
         fillAndCost();
+        measuredByPages();
         askedWithout();
         rectsTaken();
         drawsRound();

@@ -139,6 +139,7 @@ public final class TextEdgesTest extends Checks {
         dueFault(" ".repeat(300), 300, BYTE);
         dueFault(" ".repeat(299) + "p", 299, BYTE);
         dueFault("page 3 1 1" + " ".repeat(289) + ";", 300, BYTE);
+        dueFault("page" + " ".repeat(296), 300, BYTE);
         dueFault("a".repeat(300), 0, BYTE);
         dueFault("page" + "3".repeat(296), 4, NUMBER);
         dueTaken("page" + "0".repeat(291) + "3 1 1", 0);
@@ -250,6 +251,11 @@ public final class TextEdgesTest extends Checks {
         String text = "page 3 1 1 ; rect 7 -5 0 5 5;rect 8 1 1 2 2 ";
         for (int n = 0; n <= text.length(); n++) {
             String head = text.substring(0, n);
+            // What stood behind the end of the tape once is no part of the text.
+            RectFile cut = new RectFile();
+            feedText(cut, text);
+            due("end", cut.end(n), n);
+            due("file of \"" + head + "\", cut from more", cut.file(), tell(new RectFile(), head));
             if (n == 10 || n == 11) {
                 dueTaken(head, 0);
             } else if (n == 28) {

@@ -94,6 +94,33 @@ public final class TreeEdgesTest extends Checks {
         dueBox(f, 0, 1, 2, 3, 4);
     }
 
+    /** A BOX grows by any of its sides, to any other one, and those above it with it. */
+    private static void boxesGrow() {
+        about("a BOX is the least one round what it has");
+        for (int i = 0; i < 6561; i++) {
+            int[] inner = {i % 3, i / 3 % 3, i / 9 % 3, i / 27 % 3};
+            int[] outer = {i / 81 % 3, i / 243 % 3, i / 729 % 3, i / 2187 % 3};
+            boolean round = inner[0] <= inner[2] && inner[1] <= inner[3] && outer[0] <= inner[0] && outer[1] <= inner[1]
+                    && outer[2] >= inner[2] && outer[3] >= inner[3];
+            if (round) {
+                RectFile f = empty(3, 1, 1);
+                for (int id = 0; id < 4; id++) {
+                    f.put(id, inner[0], inner[1], inner[2], inner[3]);
+                }
+                dueTree(f, "[[0] [1 2 3]]");
+                f.put(4, outer[0], outer[1], outer[2], outer[3]);
+                dueTree(f, "[[0 4] [1 2 3]]");
+                dueBox(f, 0, outer[0], outer[1], outer[2], outer[3]);
+                dueSound(f);
+                f.remove(4);
+                dueBox(f, 0, inner[0], inner[1], inner[2], inner[3]);
+            }
+        }
+        RectFile f = told("page 3 1 1; rect 1 0 0 5 5; rect 2 -3 1 9 8");
+        f.remove(2);
+        dueBox(f, 0, 0, 0, 5, 5);
+    }
+
     // ---- an entry comes
 
     /** Pages of three rects each, as large as told; of the first two the first lies lower, a third farther right. */
@@ -148,6 +175,9 @@ public final class TreeEdgesTest extends Checks {
         due("least AREA", f.choose(50, 50, 51, 51), 1);
         f = pagesOf(new int[] {0, 0, 10, 10}, new int[] {0, 0, 10, 10});
         due("the first", f.choose(5, 5, 5, 5), 1);
+        // At the edge of 1, which would not grow; 2 would grow by 100, and be less than 1 then.
+        f = pagesOf(new int[] {0, 0, 100, 100}, new int[] {110, 50, 120, 60});
+        due("growth, not what it would be", f.choose(100, 50, 100, 60), 1);
         // It lies in 1, which would overlap no more than the 5000 that it does; 3 would overlap 10 more.
         f = pagesOf(new int[] {0, 0, 100, 100}, new int[] {0, 50, 100, 150}, new int[] {110, 0, 120, 10});
         due("less what it is", f.choose(99, 0, 100, 10), 1);
@@ -235,6 +265,20 @@ public final class TreeEdgesTest extends Checks {
             due("splits", f.count(6) - splits, 0);
             dueSound(f);
         }
+    }
+
+    /** The farthest stands second; it goes to the other page, where the growth is less. */
+    private static void reinsertsSecond() {
+        about("REINSERT, the second is the farthest");
+        RectFile f = empty(4, 2, 1);
+        int[][] points = {{0, 250}, {250, -1}, {250, 500}, {500, 0}, {600, 510}, {600, 520}};
+        for (int id = 0; id < points.length; id++) {
+            f.put(id, points[id][0], points[id][1], points[id][0], points[id][1]);
+        }
+        f.bulk();
+        dueTree(f, "[[1 3 0 2] [4 5]]");
+        f.put(6, 250, 250, 250, 250);
+        dueTree(f, "[[1 0 2 6] [4 5 3]]");
     }
 
     /** Up to three levels: on each LEVEL but the ROOT's once in an ACT, then split; the next ACT begins anew. */
@@ -526,6 +570,10 @@ public final class TreeEdgesTest extends Checks {
         f = told("page 3 1 1;rect 1 9 5 9 5;rect 2 8 0 8 10;rect 3 7 5 7 5;rect 4 6 4 6 5");
         f.bulk();
         dueTree(f, "[[4 3 2] [1]]");
+        // By 1 apart, and the other way round than by ID.
+        f = told("page 3 1 1;rect 1 5 5 6 5;rect 2 5 5 5 5;rect 3 4 5 5 5;rect 4 4 5 4 5");
+        f.bulk();
+        dueTree(f, "[[4 3 2] [1]]");
         // The SLICE by x1 + x2, then y1 + y2, then ID: six of seven at one x are the first SLICE, by y, not by ID.
         f = told("page 3 1 1;rect 1 5 9 5 9;rect 2 5 8 5 8;rect 3 5 7 5 7;rect 4 5 6 5 6;rect 5 5 5 5 5;rect 6 5 4 5 4");
         f.put(7, 5, 3, 5, 3);
@@ -616,11 +664,13 @@ public final class TreeEdgesTest extends Checks {
         forAllSizes(TreeEdgesTest::fullRoot);
         forAllSizes(TreeEdgesTest::fewest);
         emptied();
+        boxesGrow();
         overlaps();
         comesToLeaves();
         comesToBranches();
         reinsertsAlike();
         reinsertsFarthest();
+        reinsertsSecond();
         reinsertsOnLevels();
         splitAxis();
         splitOrders();
