@@ -734,6 +734,49 @@ public final class AskEdgesTest extends Checks {
         dueSound(f);
     }
 
+    /** The PUTs of file() count as any others: the fourth splits the ROOT, the fifth throws one out, then splits. */
+    private static void countedWhileTold() {
+        about("SPLITS and REINSERTS since the FILE was told");
+        String[] rects = {"; rect 0 0 0 10 10", "; rect 1 20 0 30 10", "; rect 2 40 0 50 10", "; rect 3 100 100 110 110",
+            "; rect 4 10 0 15 10"};
+        int[] splits = {0, 0, 0, 0, 1, 2};
+        int[] reinserts = {0, 0, 0, 0, 0, 1};
+        StringBuilder text = new StringBuilder("page 3 1 1");
+        for (int i = 0; i <= rects.length; i++) {
+            RectFile f = told(text.toString());
+            due("splits of " + i, f.count(6), splits[i]);
+            due("reinserts of " + i, f.count(7), reinserts[i]);
+            text.append(i < rects.length ? rects[i] : "");
+        }
+    }
+
+    /** The TAPE and the SHELVES are beside the FILE: undo() and back() leave them as they are. */
+    private static void besideTheFile() {
+        about("the TAPE and the SHELVES stay");
+        RectFile f = twoColumns();
+        f.bulk();
+        f.keep(0);
+        due("feed", feedText(f, "page 8 4 3; rect 9 1 2 3 4"), 26);
+        due("remove", f.remove(0) > 0 ? 1 : 0, 1);
+        f.keep(1);
+        due("undo", f.undo(), 1);
+        due("bytes", f.count(10), 26);
+        due("shelves", f.count(11), 3);
+        due("kept ahead of the act", f.same(0), 1);
+        due("kept behind it", f.same(1), 0);
+        due("undo", f.undo(), 0);
+        due("bytes", f.count(10), 26);
+        due("shelves", f.count(11), 3);
+        due("back", f.back(1), 4);
+        due("bytes", f.count(10), 26);
+        due("shelves", f.count(11), 3);
+        due("back", f.back(0), 5);
+        due("bytes", f.count(10), 26);
+        due("what was fed ahead of all that", f.file(), 1);
+        dueRect(f, 9, 1, 2, 3, 4);
+        due("M", f.count(3), 8);
+    }
+
     public static void main(String[] args) {
         windowMeets();
         windowRefused();
@@ -758,6 +801,8 @@ public final class AskEdgesTest extends Checks {
         keptWhole();
         likeTrees();
         toldAnew();
+        countedWhileTold();
+        besideTheFile();
         finish("ask edges");
     }
 }

@@ -6,6 +6,7 @@ import java.util.Random;
  */
 public final class LifeTest extends Checks {
     private static final int CALLS = 512;
+    private static final int CALLS_BEHIND = 2000;
     private static final int[] EDGES = {MIN, MIN + 1, -2001, -2000, -1025, -1024, -1001, -1000, -3, -2, -1, 0, 1, 2, 3, 4,
         5, 6, 7, 8, 9, 10, 11, 12, 19, 20, 21, 50, 98, 99, 100, 101, 255, 256, 299, 300, 301, 999, 1000, 1001, 1999, 2000,
         2001, MAX - 1, MAX};
@@ -20,6 +21,8 @@ public final class LifeTest extends Checks {
     private void call(String name, int... a) {
         if (twin.calls < CALLS) {
             twin.call(name, a);
+        } else {
+            twin.callFreely(name, a);
         }
     }
 
@@ -89,9 +92,19 @@ public final class LifeTest extends Checks {
                 callAsUsual();
             }
         }
-        due("calls", twin.calls, CALLS);
         if (twin.plain.count(1) > 0) {
             dueSound(twin.real);
+        }
+    }
+
+    /** What is answered behind the 512th call is free, but no call may ever throw. */
+    private void liveOn(int edgesOfTen) {
+        while (twin.calls < CALLS + CALLS_BEHIND) {
+            if (random.nextInt(10) < edgesOfTen) {
+                callAtEdges();
+            } else {
+                callAsUsual();
+            }
         }
     }
 
@@ -99,7 +112,9 @@ public final class LifeTest extends Checks {
         int lives = args.length > 0 ? Integer.parseInt(args[0]) : 100;
         for (int seed = 0; seed < lives; seed++) {
             about("life " + seed);
-            new LifeTest(seed).live(1 + 3 * (seed % 4));
+            LifeTest life = new LifeTest(seed);
+            life.live(1 + 3 * (seed % 4));
+            life.liveOn(seed % 4);
         }
         finish("lives");
     }

@@ -683,6 +683,22 @@ public final class PromisesTest extends Checks {
         due("count(7) of columns", twoColumns().count(7), 0);
     }
 
+    /** What README.md shows. */
+    private static void readme() {
+        about("README.md");
+        RectFile f = new RectFile();
+        due("feed", f.feed(0x70616765, 0x20332031, 0x20313B72, 0x65637420, 0x37203020), 20);
+        due("feed", f.feed(0x30203130, 0x20313000, 0, 0, 0), 40);
+        due("end", f.end(27), 27);
+        due("file", f.file(), 1);
+        due("put", f.put(8, 20, 0, 30, 10), 1);
+        due("window", f.window(5, 5, 25, 25, RectFile.NONE), 2);
+        due("window", f.window(5, 5, 25, 25, 1), 8);
+        due("nearest", f.nearest(40, 0, 0, 1), 100);
+        due("undo", f.undo(), 0);
+        due("count", f.count(0), 1);
+    }
+
     public static void main(String[] args) {
         newObject();
         feed();
@@ -715,6 +731,7 @@ public final class PromisesTest extends Checks {
         overlap();
         same();
         count();
+        readme();
         finish("promises");
     }
 }

@@ -55,6 +55,15 @@ final class Twin {
         Checks.dueText("call " + calls + ", " + name + Arrays.toString(a), got, answer(plain, PLAIN[kind], a));
     }
 
+    /** The RectFile alone is called: what it answers is free, but it must not throw. */
+    void callFreely(String name, int... a) {
+        calls++;
+        String got = answer(real, REAL[NAMES.indexOf(name)], a);
+        if (got.startsWith("threw")) {
+            Checks.tellWrong("call " + calls + ", " + name + Arrays.toString(a) + " " + got);
+        }
+    }
+
     /** A text is fed, with blanks behind it, and told. */
     void tell(String text) {
         call("end", 0);
