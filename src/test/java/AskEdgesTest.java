@@ -498,6 +498,44 @@ public final class AskEdgesTest extends Checks {
         due("x", f.count(9), x);
     }
 
+    /** Each RECT has REINSERTS of its own: n at once are as n one by one, but for the ACTS. */
+    private static void drawnOneByOne() {
+        about("REINSERTED once on a LEVEL for each that is DRAWN");
+        for (int seed = 0; seed < 20; seed++) {
+            RectFile together = told("page 3 1 1");
+            RectFile single = told("page 3 1 1");
+            together.draws(seed);
+            single.draws(seed);
+            due("drawn", together.drawn(20), 20);
+            for (int i = 0; i < 20; i++) {
+                due("drawn", single.drawn(1), 1);
+            }
+            due("acts", together.count(8), 1);
+            dueText("drawn from " + seed, allButActs(together), allButActs(single));
+            due("more REINSERTS than LEVELS", together.count(7) > together.count(2) ? 1 : 0, 1);
+        }
+    }
+
+    /** So it is with the RECTS of a FILE: told they are as PUT one by one. */
+    private static void toldOneByOne() {
+        about("RECTS are PUT in their order");
+        for (int seed = 0; seed < 20; seed++) {
+            RectFile single = told("page 3 1 1");
+            StringBuilder text = new StringBuilder("page 3 1 1");
+            int place = seed;
+            for (int i = 0; i < 16; i++) {
+                int id = 7 * i % 100;
+                place = (37 * place + 11) % 97;
+                text.append(";rect ").append(id).append(' ').append(place).append(" 0 ").append(place).append(" 9");
+                single.put(id, place, 0, place, 9);
+            }
+            RectFile together = told(text.toString());
+            due("acts", together.count(8), 0);
+            dueText("told from " + seed, allButActs(together), allButActs(single));
+            due("more REINSERTS than LEVELS", together.count(7) > together.count(2) ? 1 : 0, 1);
+        }
+    }
+
     // ---- acts undone, shelves
 
     private static int act(RectFile f, int which) {
@@ -794,6 +832,8 @@ public final class AskEdgesTest extends Checks {
         rectsTaken();
         drawsRound();
         drawnEdges();
+        drawnOneByOne();
+        toldOneByOne();
         undoEach();
         undoEight();
         nothingToUndo();

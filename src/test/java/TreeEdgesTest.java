@@ -281,6 +281,23 @@ public final class TreeEdgesTest extends Checks {
         dueTree(f, "[[1 0 2 6] [4 5 3]]");
     }
 
+    /**
+     * The BOX is that of all M and 1: with 30 in it 0 and 30 are as far from its middle, and 0 stands ahead; it goes to
+     * the page on its left, which is split. Were 30 left out of the BOX, 30 itself would be the farthest.
+     */
+    private static void reinsertsByWholeBox() {
+        about("REINSERT, the BOX has the last one, too");
+        RectFile f = empty(3, 1, 1);
+        int[] places = {-9, -3, -2, 0, 4, 10};
+        for (int id = 0; id < places.length; id++) {
+            f.put(id, places[id], 0, places[id], 1);
+        }
+        f.bulk();
+        dueTree(f, "[[0 1 2] [3 4 5]]");
+        f.put(6, 30, 0, 30, 1);
+        dueTree(f, "[[0] [4 5 6] [1 2 3]]");
+    }
+
     /** Up to three levels: on each LEVEL but the ROOT's once in an ACT, then split; the next ACT begins anew. */
     private static void reinsertsOnLevels() {
         about("REINSERTED once on a LEVEL");
@@ -671,6 +688,7 @@ public final class TreeEdgesTest extends Checks {
         reinsertsAlike();
         reinsertsFarthest();
         reinsertsSecond();
+        reinsertsByWholeBox();
         reinsertsOnLevels();
         splitAxis();
         splitOrders();
